@@ -952,7 +952,6 @@ public final class CrustCrumb {
             rim = cake.rim;
             for (int c = 0; c < many; c++) {
                 // A cherry in the middle has no such place: its denominator stays 0.
-                numerators[c] = 0;
                 denominators[c] = 0;
                 for (int i = 0; i < cake.corners; i++) {
                     aimAtSide(cake, table, c, i);

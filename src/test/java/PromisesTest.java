@@ -139,8 +139,40 @@ public final class PromisesTest {
     due("text() of nothing", x.text(), 0);
     due("fault()", x.fault(), 0);
     due("gone, told of nothing", x.rule(5), 0);
+    // what end() took away is not read
+    String[] ended = {"one 12;;", "ones 1;;", "one 1;;;"};
+    int[] kept = {5, 3, 0};
+    int[] answers = {-15, -13, 0};
+    for (int i = 0; i < 3; i++) {
+      write(x, ended[i]);
+      x.end(kept[i]);
+      due("text() of the first " + kept[i] + " of " + ended[i], x.text(), answers[i]);
+    }
+    taken("corner 3 0;corner 4 0;corner 4 1;corner 0 4;middle 3 1;", 5);
+    textBehindText();
     scanFaults();
     wholeFaults();
+  }
+
+  /** What an earlier text, taken or refused, has told must not come back. */
+  private static void textBehindText() {
+    CrustCrumb x = new CrustCrumb();
+    String full = EIGHT + "one 1; begin 5; gone 6; cherry 6 6; one 2;";
+    for (int i = 0; i < 3; i++) {
+      write(x, full);
+      due("text() of all", x.text(), 14);
+      x.mark(3);
+      x.see(7, 1, true);
+      write(x, full + "?");
+      due("text() of all and a fault", x.text() + full.length(), -10);
+      due("CORNERS", x.rule(0), 8);
+      for (int k = 0; k < 2; k++) {
+        due("text() of nothing", x.text(), 0);
+        int[] rules = {4, 24, 72, 303, 0, 0, 0, 0};
+        for (int w = 0; w < 8; w++) due("rule(" + w + ") of nothing", x.rule(w), rules[w]);
+        for (int w = 0; w < 4; w++) due("count(" + w + ") of nothing", x.count(w), 0);
+      }
+    }
   }
 
   private static void scanFaults() {
@@ -157,6 +189,10 @@ public final class PromisesTest {
     refused("one 1;/", 1, 6);
     refused("one 1;:", 1, 6);
 
+    refused("a", 2, 0);
+    refused("z", 2, 0);
+    refused("bne 1;", 2, 0);
+    refused("ond 1;", 2, 0);
     refused("ones 1;", 2, 0);
     refused("on 1;", 2, 0);
     refused("onecorner 1;", 2, 0);
@@ -260,9 +296,24 @@ public final class PromisesTest {
     promise = "9";
     CrustCrumb x = cake(RIGHT + "one 2;");
     due("move(11, 1)", x.move(11, 1), 1002);
+    due("move(11, 4), close to two sides", x.move(11, 4), 1101);
+    due("move(11, 1)", x.move(11, 1), 1104);
     int[][] out = {{12, 2}, {6, 0}, {0, 0}, {1, 3}, {13, 2}, {-1, 2}, {LOW, 2}, {2, HIGH}, {HIGH, HIGH}, {65546, 65538}};
     for (int[] p : out) due("move(" + p[0] + ", " + p[1] + ")", x.move(p[0], p[1]), -1);
     due("rule(3)", x.rule(3), 1101);
+
+    CrustCrumb small = cake("corner 0 0; corner 4 0; corner 4 3; middle 3 1;");
+    // a spread of 1 from the longest side
+    due("move(3, 2)", small.move(3, 2), 301);
+    due("move(2, 1)", small.move(2, 1), 302);
+    due("move(1, 1)", small.move(1, 1), -1);
+    CrustCrumb short1 = cake("corner 3 0; corner 4 0; corner 4 5; corner 0 5; corner 0 4; middle 1 4;");
+    due("a length of 1", short1.corner(0, 2) + 10 * short1.corner(3, 2), 11);
+    due("RIM", short1.rule(1), 1 + 5 + 4 + 1 + 5);
+    due("AREA", short1.rule(2), 2 * (20 - 6));
+    CrustCrumb wide = cake("corner 0 0; corner 12 0; corner 12 9;middle 9 3;");
+    due("a length of 15", wide.corner(2, 2), 15);
+    due("round(9, 3)", wide.round(9, 3), 1);
 
     promise = "10, 11";
     due("turn(29)", x.turn(29), 0);
@@ -398,6 +449,18 @@ public final class PromisesTest {
     due("off(2), nobody", new CrustCrumb().off(2), -1);
     x = cake("middle 3 2; one 1; one 6;");
     fraction("off of sevenths", x.off(0), x.off(1), 24, 7);
+    x = cake("middle 3 2; one 1; one 1; one 1; one 3;");
+    // 4 each of the lower side, 2 and 2 of right, 4 of right, 12 of the rest: 8, 10, 12, 42 where 12, 12, 12, 36 is due
+    fraction("off, the last", x.off(0), x.off(1), 6, 1);
+    x = cake("middle 3 2; begin 12; one 1; one 1; one 1; one 1;");
+    // 24, 18, 12, 18
+    fraction("off, the first", x.off(0), x.off(1), 6, 1);
+    x = cake("middle 3 1; begin 12; gone 6; one 1; one 1; one 1;");
+    // left: 18 aside, 6 below, 18 aside
+    fraction("off, the second is least", x.off(0), x.off(1), 8, 1);
+    x = cake("middle 3 5; begin 18; gone 6; one 2; one 1; one 1;");
+    // left: 30 below, 18 right, 6 above, by 9, 4 1/2, 4 1/2
+    fraction("off, the first alone", x.off(0), x.off(1), 12, 1);
     x.move(3, 3);
     fraction("off, fair", x.off(0), x.off(1), 0, 1);
   }
@@ -418,6 +481,9 @@ public final class PromisesTest {
     due("round(11, 1)", x.round(11, 1), 0);
     due("round(12, 2), on the rim", x.round(12, 2), 0);
     due("round(0, 12), outside", x.round(0, 12), 0);
+    due("round(12, 0), a corner", x.round(12, 0), 0);
+    due("round(0, 0), a corner", x.round(0, 0), 0);
+    due("round(12, 12), outside", x.round(12, 12), 0);
     int[][] far = {{13, 0}, {0, 13}, {-1, 0}, {0, -1}, {LOW, LOW}, {HIGH, HIGH}};
     for (int[] b : far) due("round(" + b[0] + ", " + b[1] + ")", x.round(b[0], b[1]), -1);
     CrustCrumb rhombus = cake(RHOMBUS);
@@ -495,6 +561,17 @@ public final class PromisesTest {
     due("alike(2), aside", x.alike(2), 2);
     due("alike(3), aside", x.alike(3), 0);
     due("alike(4), aside", x.alike(4), 0);
+    // as far from each side: from everywhere
+    for (int n = 1; n <= 9; n++) due("alike(" + n + ") of a rhombus", cake(RHOMBUS).alike(n), 20);
+    CrustCrumb oblong = cake("corner 0 0; corner 4 0; corner 4 8; corner 0 8; middle 2 4;");
+    // opposite places are alike; quarters are fair if each has 2 of a short side, 4 of a long one
+    due("alike(2) of an oblong", oblong.alike(2), 24);
+    due("alike(3) of an oblong", oblong.alike(3), 0);
+    due("alike(4) of an oblong", oblong.alike(4), 4);
+    // all but the sides of 1 and 5 are as far, and those two together are: fair while they lie in one piece
+    CrustCrumb five = cake("corner 7 12; corner 0 12; corner 5 0; corner 11 8; corner 11 9; middle 6 8;");
+    int[] many = {0, 36, 26, 21, 16, 7, 6, 0, 0, 0};
+    for (int n = 1; n <= 9; n++) due("alike(" + n + ") of five sides", five.alike(n), many[n]);
   }
 
   private static void cherries() {
@@ -532,7 +609,25 @@ public final class PromisesTest {
     due("cherries(0), round the end", x.cherries(0), 1);
     due("cherries(1), round the end", x.cherries(1), 1);
 
+    // moved on to the middle and away from it
+    x = cake("begin 1; one 1; cherry 3 4;");
+    due("cut(), away", x.cut(), 0);
+    x.move(3, 4);
+    due("cut(), in the middle", x.cut(), 1);
+    due("cherries(0), in the middle", x.cherries(0), 0);
+    x.move(3, 3);
+    due("cut(), away again", x.cut(), 0);
+    due("cherries(0), away again", x.cherries(0), 1);
+
     promise = "30";
+    due("gentle(0), at first", cake("cherry 1 1;").gentle(0), 1);
+    due("gentle(0), at first", cake("one 1; one 1; cherry 1 1; cherry 1 3; cherry 4 5;").gentle(0), 1);
+    due("gentle(0), at first", cake("one 1; one 1; cherry 1 1; cherry 3 5; cherry 3 1;").gentle(0), 1);
+    due("gentle(0), at first, the second's cut", cake("one 1; one 1; cherry 5 5;").gentle(0), 1);
+    // cherries on the ways to 0 and 2; the cuts go to begin and one on
+    CrustCrumb y = cake("corner 0 0;corner 12 0;corner 12 12;corner 0 12;middle 6 6;gone 1;one 1;cherry 3 3;cherry 4 3;");
+    due("gentle(0), from 3", y.gentle(0), 3);
+    due("gentle(1), from 3", y.gentle(1), 0);
     x = cake("one 1; one 1; cherry 3 3; cherry 1 1; cherry 1 3;");
     due("gentle(0)", x.gentle(0), 1);
     due("gentle(1)", x.gentle(1), 1);
@@ -605,6 +700,24 @@ public final class PromisesTest {
     x.mark(17);
     due("told(0), the second", x.told(0), 1);
     due("told(1), the second", x.told(1), 1);
+    x = cake("middle 3 2; one 1; one 2; one 3;");
+    // 12 of 72: the lower side; 24: right and 1 1/2 above, which no mark can tell
+    x.mark(0);
+    x.mark(6);
+    x.mark(13);
+    due("told(0), aside", x.told(0), 1);
+    due("told(1), aside", x.told(1), 0);
+    // halves: right and left of the middle
+    x = cake("middle 3 2; one 1; one 1;");
+    x.mark(3);
+    x.mark(15);
+    due("told(0), halves aside", x.told(0), -4);
+    x.wipe(1);
+    x.mark(14);
+    due("told(1), less aside", x.told(1), 0);
+    x.wipe(1);
+    x.mark(16);
+    due("told(1), more aside", x.told(1), 1);
   }
 
   private static void seen() {
@@ -699,11 +812,43 @@ public final class PromisesTest {
     due("share(0)", x.share(0), 9);
     due("MARKS", x.count(0), 1);
     due("SEEN", x.count(1), 0);
+    imagesOfRows();
     due("keep(0) again", x.keep(0), 1);
     x.turn(0);
     due("back(0)", x.back(0), 3);
     due("BEGIN", x.rule(4), 10);
     due("IMAGES", x.count(2), 2);
+  }
+
+  private static void imagesOfRows() {
+    CrustCrumb x = cake("one 1; one 1;");
+    x.keep(1);
+    x.put(1, 1);
+    x.put(3, 1);
+    x.mark(5);
+    x.mark(17);
+    x.see(1, 0, true);
+    x.see(2, 1, false);
+    due("keep(0)", x.keep(0), 0);
+    due("cut()", x.cut(), 1);
+    due("begins(0)", x.begins(0), 6);
+    // all rows are written anew
+    due("back(1)", x.back(1), 2);
+    x.put(5, 3);
+    x.put(3, 3);
+    x.mark(20);
+    x.mark(21);
+    x.see(3, 1, false);
+    x.see(0, 0, true);
+    x.give(0, 9);
+    x.give(1, 9);
+    due("back(0)", x.back(0), 2);
+    due("cut() of the image", x.cut(), 1);
+    due("cherries(0) of the image", x.cherries(0), 1);
+    due("begins(0) of the image", x.begins(0), 6);
+    due("begins(1) of the image", x.begins(1), 1);
+    due("told(0) of the image", x.told(0), -4);
+    due("mark(18) behind the image's", x.mark(18), 3);
   }
 
   private static void sheets() {
@@ -724,7 +869,7 @@ public final class PromisesTest {
     due("lay(0, 0, 5)", x.lay(0, 0, 5), 1);
     due("sheet(0, 1, 2)", x.sheet(0, 1, 2), 1);
     due("read(0, 1, 0, 1)", x.read(0, 1, 0, 1), 1);
-    due("mark(5): the cell is new", x.mark(5), 2);
+    due("mark(1): the cell is new", x.mark(1), 2);
 
     promise = "40";
     due("lay(4, 0, 0)", x.lay(4, 0, 0), -1);
