@@ -65,7 +65,8 @@ public final class CrustCrumb {
     public int text() {
         int size = taped;
         taped = 0;
-        reader.takeText(tape, size);
+        reader.open(tape, size);
+        reader.takeText();
         textFault = reader.fault;
         if (textFault != 0) {
             return -10 - reader.faultPlace;
@@ -1027,8 +1028,7 @@ public final class CrustCrumb {
         int fault;
         int faultPlace;
 
-        /** Leaves the lines, or the fault and its place; cake and table hold all only without a fault. */
-        void takeText(byte[] bytes, int length) {
+        void open(byte[] bytes, int length) {
             tape = bytes;
             size = Math.min(length, bytes.length);
             at = 0;
@@ -1040,17 +1040,19 @@ public final class CrustCrumb {
             for (int line = 0; line < LINES; line++) {
                 told[line] = 0;
             }
-            takeLines();
-            if (fault == 0) {
-                refuse(faultOfWhole(), size);
-            }
         }
 
-        /** Each line takes a byte at least. */
-        private void takeLines() {
+        /** Leaves the lines, or the fault and its place; cake and table hold all only without a fault. */
+        void takeText() {
+            // Each line takes a byte at least.
             for (int i = 0; i <= size; i++) {
                 readToken();
-                if (token == END || !takeLine()) {
+                if (token == END) {
+                    fault = faultOfWhole();
+                    faultPlace = size;
+                    return;
+                }
+                if (!takeLine()) {
                     return;
                 }
                 lines++;
