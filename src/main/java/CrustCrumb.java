@@ -492,9 +492,9 @@ public final class CrustCrumb {
         }
         int had = table.marks;
         int came = 0;
-        int found = sheets.faultOfLane(k, lane);
+        int found = 0;
         for (int i = 0; i < n && found == 0; i++) {
-            found = sheets.faultOfCell(k, f + i);
+            found = sheets.faultOfCellAs(k, lane, f + i);
             if (found == 0) {
                 if (markAt(sheets.cellOf(k, f + i)) < 0) {
                     table.marks = had;
@@ -1269,16 +1269,16 @@ public final class CrustCrumb {
             }
         }
 
-        /** As a cast does: nothing can be taken as of each lane. */
-        int faultOfLane(int k, int lane) {
-            return isNothing(k) || lanes[k] == lane ? 0 : CAST;
-        }
-
         int faultOfCell(int k, int i) {
             if (isNothing(k)) {
                 return NULL;
             }
             return i >= 0 && i < sizes[k] ? 0 : INDEX;
+        }
+
+        /** The lane is looked at for each cell: where none is read, there is no fault. */
+        int faultOfCellAs(int k, int lane, int i) {
+            return isNothing(k) || lanes[k] == lane ? faultOfCell(k, i) : CAST;
         }
 
         void write(int k, int i, int v) {

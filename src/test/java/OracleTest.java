@@ -302,11 +302,9 @@ public final class OracleTest {
       List<Integer> had = new ArrayList<>(marks);
       int found = 0, came = 0;
       try {
-        byte[] bytes = lane == 0 ? (byte[]) sheets[k] : null;
-        short[] shorts = lane == 1 ? (short[]) sheets[k] : null;
-        int[] ints = lane == 2 ? (int[]) sheets[k] : null;
         for (; came < n; came++) {
-          int v = lane == 0 ? bytes[f + came] : lane == 1 ? shorts[f + came] : ints[f + came];
+          Object row = sheets[k];
+          int v = lane == 0 ? ((byte[]) row)[f + came] : lane == 1 ? ((short[]) row)[f + came] : ((int[]) row)[f + came];
           if (mark(v) < 0) { marks = had; return -20 - came; }
         }
       } catch (NullPointerException e) { found = 1;

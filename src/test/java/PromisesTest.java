@@ -925,6 +925,7 @@ public final class PromisesTest {
     due("torn()", x.torn(), 0);
     due("read(2, 1, 0, 0), nothing read of nothing", x.read(2, 1, 0, 0), 0);
     due("torn()", x.torn(), 0);
+    readsOfNoMarks(x);
     // the third is refused: the first two go too; whichever is met first
     x.wipe(0);
     x.mark(1);
@@ -940,6 +941,25 @@ public final class PromisesTest {
     due("MARKS", x.count(0), 5);
     due("read(1, 1, 3, 1)", x.read(1, 1, 3, 1), 1);
     due("MARKS", x.count(0), 6);
+  }
+
+  /** SHEET 1 is of SHORTS, SHEET 2 of nothing: whatever FAULT there was, a read() of no MARKS has none. */
+  private static void readsOfNoMarks(CrustCrumb x) {
+    int[][] torn = {{1, 0, 0, 3}, {1, 1, 8, 2}, {2, 2, 0, 1}};
+    int marks = x.count(0);
+    for (int[] t : torn) {
+      for (int k = 1; k <= 2; k++) {
+        for (int lane = 0; lane <= 2; lane++) {
+          for (int f : new int[] {0, 8, -1, LOW, HIGH}) {
+            due("read() with a FAULT", x.read(t[0], t[1], t[2], 1), 0);
+            due("torn()", x.torn(), t[3]);
+            due("read(" + k + ", " + lane + ", " + f + ", 0)", x.read(k, lane, f, 0), 0);
+            due("torn() behind read(" + k + ", " + lane + ", " + f + ", 0)", x.torn(), 0);
+          }
+        }
+      }
+    }
+    due("MARKS stay", x.count(0), marks);
   }
 
   private static void counts() {
