@@ -289,6 +289,15 @@ public final class BoundsTest extends Asked {
     fraction("crumb(0), all", x.crumb(0, 0), x.crumb(0, 1), 288, 1);
     fraction("due(0), all", x.due(0, 0), x.due(0, 1), 288, 1);
 
+    // a side of 1, 4 from the middle, and another, 1 from it; behind them what an earlier cake had is not left
+    CrustCrumb five = cake(LARGE + "middle 1 1;one 1;");
+    five.crumb(0, 0);
+    write(five, "corner 3 0;corner 4 0;corner 4 5;corner 0 5;corner 0 4;middle 1 4;begin 1;gone 15;one 1;");
+    five.text();
+    fraction("crumb(0) of a side of 1", five.crumb(0, 0), five.crumb(0, 1), 4, 1);
+    five.turn(11);
+    fraction("crumb(0) of another", five.crumb(0, 0), five.crumb(0, 1), 1, 1);
+
     sentence("Promise 19: WORK of a ONE (m, f 0 to 99)");
     only("work(0, m, 0, 0)", 0, 99, () -> people(1), (y, m) -> y.work(0, m, 0, 0));
     only("work(0, 0, f, 0)", 0, 99, () -> people(1), (y, f) -> y.work(0, 0, f, 0));

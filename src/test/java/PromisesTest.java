@@ -1,41 +1,7 @@
 /** Each promise of the document by hand: ordinary inputs, the edges that it names, wrong inputs. */
-public final class PromisesTest {
-  private static final int LOW = Integer.MIN_VALUE, HIGH = Integer.MAX_VALUE;
-  private static int wrong = 0;
-  private static int asked = 0;
-  private static String promise = "";
-
-  private static void due(String call, long got, long want) {
-    asked++;
-    if (got != want) {
-      wrong++;
-      System.out.println("promise " + promise + ": " + call + " answered " + got + ", due is " + want);
-    }
-  }
-
-  private static void fraction(String call, long n, long d, long wantN, long wantD) {
-    due(call + " numerator", n, wantN);
-    due(call + " denominator", d, wantD);
-  }
-
-  private static void write(CrustCrumb x, String text) {
-    for (int i = 0; i < text.length(); i += 8) {
-      long v = 0;
-      for (int k = 0; k < 8; k++) v = v << 8 | (i + k < text.length() ? text.charAt(i + k) & 255 : 32);
-      x.feed(v);
-    }
-    x.end(x.count(3) - (8 - text.length() % 8) % 8);
-  }
-
-  private static CrustCrumb cake(String text) {
-    CrustCrumb x = new CrustCrumb();
-    write(x, text);
-    int answer = x.text();
-    if (answer < 0) due("text() of " + text, answer, 0);
-    return x;
-  }
-
-  private static void refused(String text, int fault, int place) {
+public final class PromisesTest extends Asked {
+  /** Nothing of what was told goes. */
+  private static void refusedAndStays(String text, int fault, int place) {
     CrustCrumb x = cake("corner 1 1; corner 11 1; corner 11 11; corner 1 11; middle 5 6; begin 7; gone 8; one 9; cherry 2 3;");
     x.mark(4);
     x.see(0, 0, true);
@@ -51,15 +17,8 @@ public final class PromisesTest {
     due("images behind '" + text + "'", x.count(2), 1);
   }
 
-  private static void taken(String text, int lines) {
-    CrustCrumb x = new CrustCrumb();
-    write(x, text);
-    due("text() of '" + text + "'", x.text(), lines);
-    due("fault() of '" + text + "'", x.fault(), 0);
-  }
-
   private static void newObject() {
-    promise = "1";
+    sentence("promise 1");
     CrustCrumb x = new CrustCrumb();
     int[] rules = {4, 24, 72, 303, 0, 0, 0, 0};
     for (int i = 0; i < 8; i++) due("rule(" + i + ")", x.rule(i), rules[i]);
@@ -78,7 +37,7 @@ public final class PromisesTest {
   }
 
   private static void feedAndEnd() {
-    promise = "2";
+    sentence("promise 2");
     CrustCrumb x = new CrustCrumb();
     for (int i = 1; i <= 40; i++) due("feed", x.feed(-1L), 8 * i);
     due("feed behind 320", x.feed(0), -3);
@@ -93,7 +52,7 @@ public final class PromisesTest {
     due("text()", x.text(), 1);
     due("share(0)", x.share(0), 3);
 
-    promise = "3";
+    sentence("promise 3");
     x = new CrustCrumb();
     due("end(0)", x.end(0), 0);
     due("end(1)", x.end(1), -1);
@@ -110,7 +69,7 @@ public final class PromisesTest {
   }
 
   private static void textAndFault() {
-    promise = "4, 5";
+    sentence("promise 4, 5");
     taken("", 0);
     taken("   ", 0);
     taken("one1;one 02 ; one 3;", 3);
@@ -176,100 +135,98 @@ public final class PromisesTest {
   }
 
   private static void scanFaults() {
-    refused("ONE 1;", 1, 0);
-    refused("one\n1;", 1, 3);
-    refused("one 1: ", 1, 5);
-    refused("one 100;", 1, 4);
-    refused("one 001;", 1, 4);
-    refused("123;", 1, 0);
-    refused("one 1;\u0000", 1, 6);
-    refused("one 1;\u00ff", 1, 6);
-    refused("one 1;`", 1, 6);
-    refused("one 1;{", 1, 6);
-    refused("one 1;/", 1, 6);
-    refused("one 1;:", 1, 6);
+    refusedAndStays("ONE 1;", 1, 0);
+    refusedAndStays("one\n1;", 1, 3);
+    refusedAndStays("one 1: ", 1, 5);
+    refusedAndStays("one 100;", 1, 4);
+    refusedAndStays("one 001;", 1, 4);
+    refusedAndStays("123;", 1, 0);
+    refusedAndStays("one 1;\u0000", 1, 6);
+    refusedAndStays("one 1;\u00ff", 1, 6);
+    refusedAndStays("one 1;`", 1, 6);
+    refusedAndStays("one 1;{", 1, 6);
+    refusedAndStays("one 1;/", 1, 6);
+    refusedAndStays("one 1;:", 1, 6);
 
-    refused("a", 2, 0);
-    refused("z", 2, 0);
-    refused("bne 1;", 2, 0);
-    refused("ond 1;", 2, 0);
-    refused("ones 1;", 2, 0);
-    refused("on 1;", 2, 0);
-    refused("onecorner 1;", 2, 0);
-    refused(" ; ", 2, 1);
-    refused("one 1;;", 2, 6);
-    refused("7", 2, 0);
-    refused("one", 2, 3);
-    refused("one  ", 2, 5);
-    refused("one 1", 2, 5);
-    refused("one 1  ", 2, 7);
-    refused("one one;", 2, 4);
-    refused("one ;", 2, 4);
-    refused("one 1 2;", 2, 6);
-    refused("one 1 one", 2, 6);
-    refused("middle 3;", 2, 8);
-    refused("middle 3 3 3;", 2, 11);
-    refused("middle 33;", 3, 7);
+    refusedAndStays("a", 2, 0);
+    refusedAndStays("z", 2, 0);
+    refusedAndStays("bne 1;", 2, 0);
+    refusedAndStays("ond 1;", 2, 0);
+    refusedAndStays("ones 1;", 2, 0);
+    refusedAndStays("on 1;", 2, 0);
+    refusedAndStays("onecorner 1;", 2, 0);
+    refusedAndStays(" ; ", 2, 1);
+    refusedAndStays("one 1;;", 2, 6);
+    refusedAndStays("7", 2, 0);
+    refusedAndStays("one", 2, 3);
+    refusedAndStays("one  ", 2, 5);
+    refusedAndStays("one 1", 2, 5);
+    refusedAndStays("one 1  ", 2, 7);
+    refusedAndStays("one one;", 2, 4);
+    refusedAndStays("one ;", 2, 4);
+    refusedAndStays("one 1 2;", 2, 6);
+    refusedAndStays("one 1 one", 2, 6);
+    refusedAndStays("middle 3;", 2, 8);
+    refusedAndStays("middle 3 3 3;", 2, 11);
+    refusedAndStays("middle 33;", 3, 7);
 
-    refused("one 0;", 3, 4);
-    refused("one 10 ?", 3, 4);
-    refused("corner 13 0;", 3, 7);
-    refused("corner 0 13;", 3, 9);
-    refused("middle 0 99;", 3, 9);
-    refused("cherry 13 ?", 3, 7);
+    refusedAndStays("one 0;", 3, 4);
+    refusedAndStays("one 10 ?", 3, 4);
+    refusedAndStays("corner 13 0;", 3, 7);
+    refusedAndStays("corner 0 13;", 3, 9);
+    refusedAndStays("middle 0 99;", 3, 9);
+    refusedAndStays("cherry 13 ?", 3, 7);
 
-    refused("middle 3 3;middle ?", 4, 11);
-    refused("begin 0; begin 0;", 4, 9);
-    refused("gone 0;gone 99", 4, 7);
-    refused("begin 0;gone 1;begin", 4, 15);
+    refusedAndStays("middle 3 3;middle ?", 4, 11);
+    refusedAndStays("begin 0; begin 0;", 4, 9);
+    refusedAndStays("gone 0;gone 99", 4, 7);
+    refusedAndStays("begin 0;gone 1;begin", 4, 15);
 
     String corner = "corner 1 1;", one = "one 1;", cherry = "cherry 1 1;";
-    refused(corner.repeat(8) + "corner ?", 5, 88);
-    refused(one.repeat(6) + "one 0;", 5, 36);
-    refused(cherry.repeat(8) + "cherry 13 13;", 5, 88);
+    refusedAndStays(corner.repeat(8) + "corner ?", 5, 88);
+    refusedAndStays(one.repeat(6) + "one 0;", 5, 36);
+    refusedAndStays(cherry.repeat(8) + "cherry 13 13;", 5, 88);
     taken(one.repeat(6), 6);
     taken(cherry.repeat(8), 8);
   }
 
   private static void wholeFaults() {
-    refused("corner 1 1;", 6, 11);
-    refused("corner 1 1;corner 0 0; begin 99; ", 6, 33);
+    refusedAndStays("corner 1 1;", 6, 11);
+    refusedAndStays("corner 1 1;corner 0 0; begin 99; ", 6, 33);
     // to the right; straight on; back; the same corner twice
-    refused("corner 0 0;corner 0 6;corner 6 6;corner 6 0;", 7, 44);
-    refused("corner 0 0;corner 3 0;corner 6 0;corner 6 6;corner 0 6;", 7, 55);
-    refused("corner 0 0;corner 6 0;corner 3 0;", 7, 33);
-    refused("corner 0 0;corner 0 0;corner 6 0;corner 6 6;corner 0 6;", 7, 55);
-    refused("corner 0 0;corner 6 0;corner 6 6;corner 5 1;corner 0 6;", 7, 55);
+    refusedAndStays("corner 0 0;corner 0 6;corner 6 6;corner 6 0;", 7, 44);
+    refusedAndStays("corner 0 0;corner 3 0;corner 6 0;corner 6 6;corner 0 6;", 7, 55);
+    refusedAndStays("corner 0 0;corner 6 0;corner 3 0;", 7, 33);
+    refusedAndStays("corner 0 0;corner 0 0;corner 6 0;corner 6 6;corner 0 6;", 7, 55);
+    refusedAndStays("corner 0 0;corner 6 0;corner 6 6;corner 5 1;corner 0 6;", 7, 55);
     // twice round, with a middle to the left of each side and whole lengths
-    refused("corner 0 0;corner 6 0;corner 6 6;corner 2 6;corner 2 2;corner 4 2;corner 4 4;corner 0 4;", 7, 88);
-    refused("corner 6 0;corner 9 12;corner 0 5;corner 12 5;corner 3 12;", 7, 58);
-    refused("corner 0 0;corner 6 0;corner 0 6;middle 9 9;", 8, 44);
-    refused("corner 0 0;corner 6 0;corner 6 5;corner 0 6;", 8, 44);
-    refused("corner 6 6;corner 12 6;corner 12 12;corner 6 12;", 9, 48);
-    refused("middle 0 3;begin 24;", 9, 20);
-    refused("middle 6 6;", 9, 11);
-    refused("cherry 3 3;cherry 3 0;", 9, 22);
-    refused("cherry 7 3;gone 24;", 9, 19);
-    refused("begin 24;", 10, 9);
-    refused("gone 24;begin 1;", 10, 16);
-    refused("gone 99;", 10, 8);
+    refusedAndStays("corner 0 0;corner 6 0;corner 6 6;corner 2 6;corner 2 2;corner 4 2;corner 4 4;corner 0 4;", 7, 88);
+    refusedAndStays("corner 6 0;corner 9 12;corner 0 5;corner 12 5;corner 3 12;", 7, 58);
+    refusedAndStays("corner 0 0;corner 6 0;corner 0 6;middle 9 9;", 8, 44);
+    refusedAndStays("corner 0 0;corner 6 0;corner 6 5;corner 0 6;", 8, 44);
+    refusedAndStays("corner 6 6;corner 12 6;corner 12 12;corner 6 12;", 9, 48);
+    refusedAndStays("middle 0 3;begin 24;", 9, 20);
+    refusedAndStays("middle 6 6;", 9, 11);
+    refusedAndStays("cherry 3 3;cherry 3 0;", 9, 22);
+    refusedAndStays("cherry 7 3;gone 24;", 9, 19);
+    refusedAndStays("begin 24;", 10, 9);
+    refusedAndStays("gone 24;begin 1;", 10, 16);
+    refusedAndStays("gone 99;", 10, 8);
   }
 
   /** Sides 12, 5, 13; a circle of 2 fits. */
   private static final String RIGHT = "corner 0 0; corner 12 0; corner 12 5; middle 10 2;";
   private static final String RHOMBUS = "corner 3 0; corner 6 4; corner 3 8; corner 0 4; middle 3 4;";
-  private static final String EIGHT =
-      "corner 4 0;corner 8 0;corner 12 3;corner 12 8;corner 8 11;corner 4 11;corner 0 8;corner 0 3;middle 6 5;";
 
   private static void rules() {
-    promise = "6";
+    sentence("promise 6");
     CrustCrumb x = cake(RIGHT + "begin 29; gone 28; one 2; one 3; cherry 11 1;");
     int[] rules = {3, 30, 60, 1002, 29, 28, 2, 1};
     for (int i = 0; i < 8; i++) due("rule(" + i + ")", x.rule(i), rules[i]);
     int[] bad = {-1, 8, LOW, HIGH};
     for (int w : bad) due("rule(" + w + ")", x.rule(w), -1);
 
-    promise = "7";
+    sentence("promise 7");
     int[][] corners = {{0, 0, 12, 0}, {12, 0, 5, 12}, {12, 5, 13, 17}};
     for (int i = 0; i < 3; i++) for (int w = 0; w < 4; w++) due("corner(" + i + ", " + w + ")", x.corner(i, w), corners[i][w]);
     due("corner(3, 0)", x.corner(3, 0), -1);
@@ -284,7 +241,7 @@ public final class PromisesTest {
     due("corner(7, 2)", e.corner(7, 2), 5);
     due("corner(8, 2)", e.corner(8, 2), -1);
 
-    promise = "8";
+    sentence("promise 8");
     due("share(0)", x.share(0), 2);
     due("share(1)", x.share(1), 3);
     due("share(2)", x.share(2), -1);
@@ -293,7 +250,7 @@ public final class PromisesTest {
   }
 
   private static void changes() {
-    promise = "9";
+    sentence("promise 9");
     CrustCrumb x = cake(RIGHT + "one 2;");
     due("move(11, 1)", x.move(11, 1), 1002);
     due("move(11, 4), close to two sides", x.move(11, 4), 1101);
@@ -315,7 +272,7 @@ public final class PromisesTest {
     due("a length of 15", wide.corner(2, 2), 15);
     due("round(9, 3)", wide.round(9, 3), 1);
 
-    promise = "10, 11";
+    sentence("promise 10, 11");
     due("turn(29)", x.turn(29), 0);
     due("eat(29)", x.eat(29), 0);
     int[] bad = {30, -1, LOW, HIGH};
@@ -328,14 +285,14 @@ public final class PromisesTest {
     due("BEGIN", x.rule(4), 0);
     due("GONE", x.rule(5), 3);
 
-    promise = "12";
+    sentence("promise 12");
     due("give(0, 9)", x.give(0, 9), 2);
     due("give(0, 1)", x.give(0, 1), 9);
     int[][] wrongGifts = {{1, 1}, {-1, 1}, {HIGH, 1}, {0, 0}, {0, 10}, {0, -1}, {0, HIGH}};
     for (int[] g : wrongGifts) due("give(" + g[0] + ", " + g[1] + ")", x.give(g[0], g[1]), -1);
     due("share(0)", x.share(0), 1);
 
-    promise = "13";
+    sentence("promise 13");
     int[] noShare = {0, 10, -1, LOW, HIGH};
     for (int v : noShare) due("join(" + v + ")", x.join(v), -1);
     for (int i = 2; i <= 6; i++) due("join(" + (i + 3) + ")", x.join(i + 3), i);
@@ -344,7 +301,7 @@ public final class PromisesTest {
     due("share(5)", x.share(5), 9);
     due("PEOPLE", x.rule(6), 6);
 
-    promise = "14";
+    sentence("promise 14");
     for (int[] p : out) due("put(" + p[0] + ", " + p[1] + ")", x.put(p[0], p[1]), -1);
     for (int i = 1; i <= 8; i++) due("put(11, 2)", x.put(11, 2), i);
     due("put(12, 2), full", x.put(12, 2), -1);
@@ -365,7 +322,7 @@ public final class PromisesTest {
   }
 
   private static void pieces() {
-    promise = "15";
+    sentence("promise 15");
     CrustCrumb x = cake("begin 20; gone 3; one 1; one 2; one 4;");
     fraction("place(0)", x.place(0, 0), x.place(0, 1), 23, 1);
     fraction("place(1)", x.place(1, 0), x.place(1, 1), 26, 1);
@@ -377,7 +334,7 @@ public final class PromisesTest {
     CrustCrumb zero = cake("one 3;");
     fraction("place(0) at 0", zero.place(0, 0), zero.place(0, 1), 0, 1);
 
-    promise = "16";
+    sentence("promise 16");
     // the middle is 2 from the lower side, 4 from the upper, 3 from the others
     x = cake("middle 3 2; one 1; one 1;");
     fraction("crumb(0)", x.crumb(0, 0), x.crumb(0, 1), 12 + 18, 1);
@@ -395,14 +352,14 @@ public final class PromisesTest {
     x = cake("middle 3 2; begin 13; gone 4; one 1; one 1;");
     fraction("crumb round the end", x.crumb(0, 0), x.crumb(0, 1), 4 + 3 * 6 + 2 * 3, 1);
 
-    promise = "17";
+    sentence("promise 17");
     x = cake("begin 20; gone 4; one 1; one 2; one 4;");
     fraction("crust(0)", x.crust(0, 0), x.crust(0, 1), 20, 7);
     fraction("crust(2)", x.crust(2, 0), x.crust(2, 1), 80, 7);
     x.eat(3);
     fraction("crust(1)", x.crust(1, 0), x.crust(1, 1), 6, 1);
 
-    promise = "18";
+    sentence("promise 18");
     x = cake("middle 3 2; begin 6; gone 6; one 1; one 2;");
     // left: 24 above, 18 aside, 12 below
     fraction("due(0)", x.due(0, 0), x.due(0, 1), 18, 1);
@@ -411,7 +368,7 @@ public final class PromisesTest {
     fraction("due(0)", x.due(0, 0), x.due(0, 1), 27, 2);
     fraction("due(1)", x.due(1, 0), x.due(1, 1), 81, 2);
 
-    promise = "19";
+    sentence("promise 19");
     x = cake("middle 3 2; one 1; one 6;");
     fraction("work(0, 3, 5)", x.work(0, 3, 5, 0), x.work(0, 3, 5, 1), 3 * 48 + 5 * 24, 7);
     fraction("work(0, 0, 0)", x.work(0, 0, 0, 0), x.work(0, 0, 0, 1), 0, 1);
@@ -422,7 +379,7 @@ public final class PromisesTest {
   }
 
   private static void fair() {
-    promise = "20";
+    sentence("promise 20");
     CrustCrumb x = cake("one 1; one 2; one 3;");
     due("judge(0), fair", x.judge(0), -4);
     due("judge(1), fair", x.judge(1), -4);
@@ -441,7 +398,7 @@ public final class PromisesTest {
     due("judge(0), nobody", new CrustCrumb().judge(0), -4);
     due("judge(3), nobody", new CrustCrumb().judge(3), -1);
 
-    promise = "21";
+    sentence("promise 21");
     fraction("off", x.off(0), x.off(1), 6, 1);
     due("off(2)", x.off(2), -1);
     due("off(-1)", x.off(-1), -1);
@@ -466,7 +423,7 @@ public final class PromisesTest {
   }
 
   private static void circles() {
-    promise = "22";
+    sentence("promise 22");
     CrustCrumb x = cake(RIGHT);
     fraction("far(0)", x.far(0, 0), x.far(0, 1), 2, 1);
     fraction("far(1)", x.far(1, 0), x.far(1, 1), 2, 1);
@@ -476,7 +433,7 @@ public final class PromisesTest {
     int[][] bad = {{3, 0}, {-1, 0}, {LOW, 1}, {HIGH, 1}, {0, 2}, {0, -1}};
     for (int[] b : bad) due("far(" + b[0] + ", " + b[1] + ")", x.far(b[0], b[1]), -1);
 
-    promise = "23";
+    sentence("promise 23");
     due("round(10, 2)", x.round(10, 2), 1);
     due("round(11, 1)", x.round(11, 1), 0);
     due("round(12, 2), on the rim", x.round(12, 2), 0);
@@ -494,7 +451,7 @@ public final class PromisesTest {
     due("round(2, 6), a circle outside", t.round(2, 6), 0);
     due("round(6, 2), a circle outside", t.round(6, 2), 0);
 
-    promise = "24";
+    sentence("promise 24");
     due("rounds(0)", x.rounds(0), 1);
     due("rounds(1)", x.rounds(1), 1002);
     CrustCrumb oblong = cake("corner 1 1; corner 5 1; corner 5 11; corner 1 11;");
@@ -508,7 +465,7 @@ public final class PromisesTest {
   }
 
   private static void nearest() {
-    promise = "25";
+    sentence("promise 25");
     CrustCrumb x = cake("middle 3 2; one 1; one 1;");
     // from 3 and from 15 the halves are alike: right and left of the middle
     due("best(0)", x.best(0), 3);
@@ -524,7 +481,7 @@ public final class PromisesTest {
     due("best(0), half gone", x.best(0), 9);
     fraction("best, half gone", x.best(1), x.best(2), 0, 1);
 
-    promise = "26";
+    sentence("promise 26");
     x = cake("middle 3 2; one 1; one 1; one 1; one 1;");
     due("centre(0)", x.centre(0), 303);
     fraction("centre", x.centre(1), x.centre(2), 0, 1);
@@ -549,7 +506,7 @@ public final class PromisesTest {
     x = cake("corner 0 0; corner 8 0; corner 8 6; middle 5 1; begin 8; gone 6; one 1; one 1;");
     due("centre(0), a slice gone", x.centre(0), 301);
 
-    promise = "27";
+    sentence("promise 27");
     x = new CrustCrumb();
     for (int n = 1; n <= 9; n++) due("alike(" + n + ")", x.alike(n), 24);
     int[] bad = {0, 10, -1, LOW, HIGH};
@@ -575,7 +532,7 @@ public final class PromisesTest {
   }
 
   private static void cherries() {
-    promise = "28, 29";
+    sentence("promise 28, 29");
     CrustCrumb x = cake("one 1; one 1; one 1; one 1; cherry 3 3; cherry 1 1; cherry 3 1; cherry 5 3; cherry 4 4; cherry 2 5; cherry 3 5;");
     // cuts to the four corners: the middle, 1 1 and 4 4 are cut
     due("cut()", x.cut(), 3);
@@ -619,7 +576,7 @@ public final class PromisesTest {
     due("cut(), away again", x.cut(), 0);
     due("cherries(0), away again", x.cherries(0), 1);
 
-    promise = "30";
+    sentence("promise 30");
     due("gentle(0), at first", cake("cherry 1 1;").gentle(0), 1);
     due("gentle(0), at first", cake("one 1; one 1; cherry 1 1; cherry 1 3; cherry 4 5;").gentle(0), 1);
     due("gentle(0), at first", cake("one 1; one 1; cherry 1 1; cherry 3 5; cherry 3 1;").gentle(0), 1);
@@ -646,7 +603,7 @@ public final class PromisesTest {
   }
 
   private static void marks() {
-    promise = "31";
+    sentence("promise 31");
     CrustCrumb x = new CrustCrumb();
     int[] bad = {-1, 24, LOW, HIGH};
     for (int b : bad) due("mark(" + b + ")", x.mark(b), -1);
@@ -660,7 +617,7 @@ public final class PromisesTest {
     due("mark(23), full", x.mark(23), -3);
     due("MARKS", x.count(0), 6);
 
-    promise = "32";
+    sentence("promise 32");
     int[] no = {7, -1, LOW, HIGH};
     for (int n : no) due("wipe(" + n + ")", x.wipe(n), -1);
     due("wipe(6)", x.wipe(6), 6);
@@ -670,7 +627,7 @@ public final class PromisesTest {
     due("wipe(0)", x.wipe(0), 2);
     due("wipe(0)", x.wipe(0), 0);
 
-    promise = "33";
+    sentence("promise 33");
     x = cake("begin 5; gone 7; one 1; one 2;");
     due("told(0), no marks", x.told(0), -2);
     x.mark(2);
@@ -721,14 +678,14 @@ public final class PromisesTest {
   }
 
   private static void seen() {
-    promise = "34";
+    sentence("promise 34");
     CrustCrumb x = cake("one 1; one 1;");
     int[][] bad = {{4, 0}, {-1, 0}, {0, 2}, {0, -1}, {LOW, LOW}, {HIGH, HIGH}};
     for (int[] b : bad) due("see(" + b[0] + ", " + b[1] + ")", x.see(b[0], b[1], true), -1);
     due("see(0, 0), nobody", new CrustCrumb().see(0, 0, true), -1);
     due("see(0, 0, true)", x.see(0, 0, true), 1);
 
-    promise = "36";
+    sentence("promise 36");
     // corner 0 lies in the first half from begin 0 and from 13 to 23
     due("begins(0)", x.begins(0), 12);
     due("begins(1)", x.begins(1), 0);
@@ -746,7 +703,7 @@ public final class PromisesTest {
     due("begins(3)", x.begins(3), -1);
     due("begins(-1)", x.begins(-1), -1);
 
-    promise = "35";
+    sentence("promise 35");
     int[] no = {4, -1, LOW, HIGH};
     for (int n : no) due("forget(" + n + ")", x.forget(n), -1);
     due("forget(3)", x.forget(3), 3);
@@ -759,7 +716,7 @@ public final class PromisesTest {
     due("see, full", x.see(2, 1, false), -3);
     due("see(4, 0), full", x.see(4, 0, false), -1);
 
-    promise = "36";
+    sentence("promise 36");
     // gone: a corner there is nobody's; at the first place it is the first one's
     x = cake("gone 6; one 1;");
     x.see(1, 0, true);
@@ -774,7 +731,7 @@ public final class PromisesTest {
   }
 
   private static void images() {
-    promise = "37, 38";
+    sentence("promise 37, 38");
     CrustCrumb x = cake("one 3; one 4; begin 1; gone 2; middle 2 3; cherry 4 5; cherry 1 2;");
     x.mark(7);
     x.mark(9);
@@ -852,7 +809,7 @@ public final class PromisesTest {
   }
 
   private static void sheets() {
-    promise = "39";
+    sentence("promise 39");
     CrustCrumb x = new CrustCrumb();
     int[][] bad = {{4, 0, 1}, {-1, 0, 1}, {0, 3, 1}, {0, -1, 1}, {0, 0, 41}, {4, 0, -1}, {0, 3, -1}, {LOW, LOW, LOW}, {0, 0, HIGH}};
     for (int[] b : bad) due("sheet(" + b[0] + ", " + b[1] + ", " + b[2] + ")", x.sheet(b[0], b[1], b[2]), -1);
@@ -871,7 +828,7 @@ public final class PromisesTest {
     due("read(0, 1, 0, 1)", x.read(0, 1, 0, 1), 1);
     due("mark(1): the cell is new", x.mark(1), 2);
 
-    promise = "40";
+    sentence("promise 40");
     due("lay(4, 0, 0)", x.lay(4, 0, 0), -1);
     due("lay(-1, 0, 0)", x.lay(-1, 0, 0), -1);
     due("lay(1, -1, 0)", x.lay(1, -1, 0), -11);
@@ -890,7 +847,7 @@ public final class PromisesTest {
   }
 
   private static void reads() {
-    promise = "41, 42";
+    sentence("promise 41, 42");
     CrustCrumb x = new CrustCrumb();
     x.sheet(1, 1, 8);
     for (int i = 0; i < 8; i++) x.lay(1, i, 2 * i);
@@ -963,7 +920,7 @@ public final class PromisesTest {
   }
 
   private static void counts() {
-    promise = "43";
+    sentence("promise 43");
     CrustCrumb x = cake("one 9; one 1; one 4;");
     due("count(5)", x.count(5), 14);
     x.feed(0);
@@ -1000,7 +957,6 @@ public final class PromisesTest {
     sheets();
     reads();
     counts();
-    System.out.println(asked + " answers asked, " + wrong + " not as due");
-    if (wrong != 0) System.exit(1);
+    tellAll();
   }
 }

@@ -740,6 +740,19 @@ public final class TermsTest extends Asked {
     due("cut(), nobody, beside them", x.cut(), 0);
     x.put(3, 3);
     due("cut(), nobody, in the MIDDLE", x.cut(), 1);
+    // no cut is left of what was parted ahead: by one alone, by two, by alike()
+    for (String people : new String[] {"one 1;", "one 1;one 1;", ""}) {
+      for (int begin = 0; begin < 24; begin++) {
+        CrustCrumb y = cake("begin " + begin + ";" + people);
+        y.cut();
+        if (people.isEmpty()) y.alike(1);
+        write(y, "begin 13;cherry 1 1;cherry 5 1;cherry 5 5;cherry 1 5;cherry 3 1;cherry 5 3;cherry 3 5;cherry 1 3;");
+        y.text();
+        due("cut(), nobody any more", y.cut(), 0);
+        y.eat(2);
+        due("cut(), nobody any more, 2 gone", y.cut(), 1);
+      }
+    }
   }
 
   private static void marksAndSeen() {
