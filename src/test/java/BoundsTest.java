@@ -621,6 +621,18 @@ public final class BoundsTest extends Asked {
     y.mark(10);
     due("told(0), the second", y.told(0), 1);
     due("told(1), less", y.told(1), 0);
+    // the least that there is, 1 by 15 too much and too little: the sides of 5 are 12, 16, 13 and 9 by 5 from the middle
+    String slanted = "corner 3 0;corner 7 3;corner 4 7;corner 0 4;";
+    y = cake(slanted + "one 2;one 1;");
+    y.mark(1);
+    y.mark(13);
+    due("told(0), just off", y.told(0), 0);
+    due("told(1), just more", y.told(1), 1);
+    y = cake(slanted + "one 1;one 2;");
+    y.mark(10);
+    y.mark(17);
+    due("told(0), just off", y.told(0), 0);
+    due("told(1), just less", y.told(1), 0);
   }
 
   private static void sights() {
