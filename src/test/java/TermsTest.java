@@ -136,6 +136,12 @@ public final class TermsTest extends Asked {
       due("corner(" + (i + 2) + ", 0), the last", x.corner(i + 2, 0) == BAD ? 1 : 0, 0);
       due("corner(" + (i + 3) + ", 0), behind it", x.corner(i + 3, 0), BAD);
     }
+    int[][] byOrder = {{4, 0}, {8, 0}, {12, 3}, {12, 8}, {8, 11}, {4, 11}, {0, 8}, {0, 3}};
+    CrustCrumb eight = cake(EIGHT);
+    for (int i = 0; i < 8; i++) {
+      due("corner(" + i + ", 0)", eight.corner(i, 0), byOrder[i][0]);
+      due("corner(" + i + ", 1)", eight.corner(i, 1), byOrder[i][1]);
+    }
     refused("corner 0 0;", 6, 11);
     refused("corner 0 0;corner 4 0;", 6, 22);
     refused(EIGHT + "corner 2 2;", 5, EIGHT.length());
@@ -547,6 +553,14 @@ public final class TermsTest extends Asked {
     sentence("7 a CORNER at which the way does not turn to the left, or it goes round more than once");
     refused("corner 0 0;corner 6 0;corner 6 6;corner 2 6;corner 2 2;corner 4 2;corner 4 4;corner 0 4;", 7, 88);
     refused("corner 0 0;corner 6 0;corner 6 6;corner 0 6;corner 0 0;corner 6 0;corner 6 6;corner 0 6; ", 7, 89);
+
+    sentence("8 a SIDE whose LENGTH is no whole number");
+    refused("corner 0 0;corner 3 0;corner 3 3;middle 2 1;", 8, 44);
+    refused("corner 0 0;corner 12 0;corner 12 11;middle 9 3;", 8, 47);
+    refused("corner 0 1;corner 1 0;corner 12 0;corner 12 12;corner 0 12;", 8, 59);
+    taken("corner 0 0;corner 3 0;corner 3 4;middle 2 1;", 4);
+    taken("corner 0 0;corner 12 0;corner 12 9;middle 9 3;", 4);
+    taken("corner 0 3;corner 4 0;corner 12 0;corner 12 12;corner 0 12;", 5);
 
     sentence("9 the MIDDLE, a CHERRY that is not INSIDE");
     for (int i = 0; i < 8; i++) {
