@@ -100,6 +100,30 @@ public final class BoundsTest extends Asked {
     due("text()", x.text(), 1);
   }
 
+  /** A text that is ended early is read as if the rest had never been there. */
+  private static void endedEarly() {
+    sentence("Promise 3: THE TAPE keeps its first n bytes; 2 .. the end: the length");
+    String text = "cherry 1 2; begin 12;gone 11;ones 1;one 123;";
+    for (int n = 0; n <= text.length(); n++) {
+      CrustCrumb x = new CrustCrumb(), y = new CrustCrumb();
+      write(x, text);
+      x.end(n);
+      write(y, text.substring(0, n));
+      due("text() of the first " + n, x.text(), y.text());
+      due("fault() of the first " + n, x.fault(), y.fault());
+      due("rule(4) of the first " + n, x.rule(4), y.rule(4));
+    }
+    CrustCrumb x = new CrustCrumb();
+    write(x, "ones");
+    x.end(3);
+    due("text() of one, an s taken away", x.text(), -13);
+    write(x, "begin 23;");
+    x.end(7);
+    x.feed(0x3b20202020202020L);
+    due("text() of begin 2;", x.text(), 1);
+    due("BEGIN", x.rule(4), 2);
+  }
+
   private static void texts() {
     sentence("Promise 4: THE TAPE (empty then) tells all: how many lines");
     CrustCrumb x = new CrustCrumb();
@@ -499,6 +523,38 @@ public final class BoundsTest extends Asked {
         due("alike(" + n + ") from " + x.rule(3), x.alike(n), many);
       }
     }
+  }
+
+  /** By walking round in steps of 1 by n, each with the crumb that lies between it and the middle, 780 n times over. */
+  private static int alikeByWalk(CrustCrumb x, int n) {
+    int rim = x.rule(1), side = 0, many = 0;
+    long[] far = new long[rim];
+    for (int at = 0; at < rim; at++) {
+      while (side + 1 < x.rule(0) && x.corner(side + 1, 3) <= at) side++;
+      far[at] = x.far(side, 0) * 780 / x.far(side, 1);
+    }
+    for (int b = 0; b < rim; b++) {
+      boolean fair = true;
+      for (int p = 0; p < n; p++) {
+        long crumb = 0;
+        for (int step = p * rim; step < (p + 1) * rim; step++) crumb += far[(b + step / n) % rim];
+        fair &= crumb == 780L * x.rule(2);
+      }
+      many += fair ? 1 : 0;
+    }
+    return many;
+  }
+
+  private static void alikeOfMore() {
+    sentence("Promise 27: By how many BEGINS it would be FAIR for n PEOPLE: of cakes that are so from some alone");
+    String[] texts = {"corner 7 12;corner 0 12;corner 5 0;corner 11 8;corner 11 9;middle 6 8;", "corner 0 0;corner 4 0;corner 4 8;corner 0 8;middle 2 4;",
+        "corner 3 0;corner 6 4;corner 3 8;corner 0 4;middle 3 4;", EIGHT, THREE, "corner 0 0;corner 12 0;corner 12 5;middle 11 1;",
+        "corner 3 0;corner 7 3;corner 4 7;corner 0 4;"};
+    for (String text : texts) {
+      for (int n = 1; n <= 9; n++) due("alike(" + n + ") of " + text, cake(text).alike(n), alikeByWalk(cake(text), n));
+    }
+    due("alike(2) of the first", cake(texts[0]).alike(2), 26);
+    due("alike(4) of the second", cake(texts[1]).alike(4), 4);
   }
 
   // ---- cherries
@@ -939,6 +995,7 @@ public final class BoundsTest extends Asked {
     newObject();
     feeds();
     ends();
+    endedEarly();
     texts();
     rules();
     changes();
@@ -946,6 +1003,7 @@ public final class BoundsTest extends Asked {
     judges();
     circles();
     nearest();
+    alikeOfMore();
     cherries();
     marks();
     sights();

@@ -383,6 +383,80 @@ public final class RefusalsTest extends Asked {
     }
   }
 
+  /** What an IMAGE brings back is as it was when it was kept, whatever came behind. */
+  private static void images() {
+    sentence("Promise 37: IMAGE k (0, 1) is the MIDDLE, BEGIN, GONE, PEOPLE, CHERRIES, MARKS, what was SEEN; Promise 38: All is as IMAGE k");
+    for (int k = 0; k < 2; k++) {
+      for (ToList ask : List.<ToList>of(RefusalsTest::ask, RefusalsTest::askRows)) {
+        CrustCrumb empty = new CrustCrumb(), first = new CrustCrumb(), second = new CrustCrumb();
+        tellFirst(first);
+        tellSecond(second);
+        same("of the first", ask.of(withImages(k, 1 - k)), withTwoImages(ask, first));
+        same("of the second", ask.of(withImages(k, k)), withTwoImages(ask, second));
+        CrustCrumb x = new CrustCrumb();
+        x.keep(0);
+        tellFirst(x);
+        x.keep(1);
+        x.back(0);
+        same("of the empty one", ask.of(x), withTwoImages(ask, empty));
+      }
+    }
+  }
+
+  /** IMAGE 1 - k is the first, IMAGE k the second; all is as IMAGE last. */
+  private static CrustCrumb withImages(int k, int last) {
+    CrustCrumb x = new CrustCrumb();
+    x.keep(k);
+    tellFirst(x);
+    x.keep(1 - k);
+    x.back(k);
+    tellSecond(x);
+    x.keep(k);
+    x.back(1 - k);
+    x.turn(20);
+    x.back(last);
+    return x;
+  }
+
+  /** What is asked first of an object that is kept as both, so that it has as many IMAGES. */
+  private static List<Long> withTwoImages(ToList ask, CrustCrumb x) {
+    x.keep(0);
+    x.keep(1);
+    return ask.of(x);
+  }
+
+  private static void tellFirst(CrustCrumb x) {
+    x.join(1);
+    x.join(1);
+    x.join(2);
+    x.put(1, 1);
+    x.put(3, 1);
+    x.put(4, 5);
+    x.mark(5);
+    x.mark(11);
+    x.mark(17);
+    x.see(1, 0, true);
+    x.see(2, 1, false);
+  }
+
+  /** No row of it is as that of the first. */
+  private static void tellSecond(CrustCrumb x) {
+    x.move(2, 4);
+    x.turn(7);
+    x.eat(2);
+    x.join(4);
+    x.join(7);
+    x.join(3);
+    x.put(3, 2);
+    x.put(3, 4);
+    x.put(3, 5);
+    x.mark(2);
+    x.mark(9);
+    x.mark(23);
+    x.see(3, 2, false);
+    x.see(0, 1, true);
+  }
+
   private static void asking() {
     sentence("'pieces', 'circles', 'nearest', 'cherries', told, begins, rule, corner, share, fault, torn, count: what only asks changes nothing");
     for (String state : STATES) {
@@ -404,6 +478,7 @@ public final class RefusalsTest extends Asked {
     refusedEverywhere();
     refusedInSome();
     refusedTexts();
+    images();
     asking();
     tellAll();
   }

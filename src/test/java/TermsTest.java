@@ -203,6 +203,9 @@ public final class TermsTest extends Asked {
         refused(back, 7, back.length());
       }
     }
+    // just to the left at 4 0, where twice the area of its three points is 1
+    int[][] just = {{3, 0}, {4, 0}, {4, 1}, {0, 4}};
+    for (int first = 0; first < 4; first++) taken(cornersFrom(just, first, false) + "middle 3 1;", 5);
     // straight on, to the right, there and back, in place, at each of the corners in turn
     int[][][] wrong = {{{0, 0}, {3, 0}, {6, 0}, {6, 6}, {0, 6}}, {{0, 0}, {6, 0}, {6, 6}, {3, 3}, {0, 6}}, {{0, 0}, {6, 0}, {6, 0}, {6, 6}, {0, 6}},
         {{0, 0}, {6, 0}, {9, 0}, {6, 0}, {6, 6}, {0, 6}}, {{0, 0}, {6, 0}, {12, 0}}};
@@ -617,6 +620,26 @@ public final class TermsTest extends Asked {
     due("mark(0)", x.mark(0), 1);
     due("cut()", x.cut(), 0);
 
+    // by turns: nothing of the one ahead, nor of the one ahead of that, is left
+    x = new CrustCrumb();
+    for (int i = 0; i < 3; i++) {
+      write(x, EIGHT + "begin 5;gone 6;one 1;one 2;cherry 6 6;cherry 5 5;");
+      due("text() of much", x.text(), 15);
+      x.mark(3);
+      x.see(7, 1, true);
+      x.keep(i % 2);
+      for (int k = 0; k < 2; k++) {
+        write(x, THREE);
+        due("text() of little", x.text(), 4);
+        for (int w = 0; w < 8; w++) due("rule(" + w + ") of little", x.rule(w), rules[w]);
+        for (int w = 0; w < 4; w++) due("count(" + w + ") of little", x.count(w), 0);
+        due("begins(0) of little", x.begins(0), 12);
+        due("rounds(0) of little", x.rounds(0), 1);
+        due("round(3, 1) of little", x.round(3, 1), 1);
+        due("cut() of little", x.cut(), 0);
+      }
+    }
+
     sentence("-10 less the place of its FAULT: that which was told stays");
     x = full();
     x.keep(1);
@@ -667,6 +690,32 @@ public final class TermsTest extends Asked {
     }
   }
 
+  /** Each is asked as the first behind what is changed. */
+  private static void askedAtOnce() {
+    sentence("The PIECE of a ONE lies between two CUTS: as BEGIN, GONE, SHARES and the MIDDLE are now");
+    CrustCrumb x = cake("one 1;one 1;");
+    x.eat(12);
+    due("crust(0)", x.crust(0, 0), 6);
+    x.eat(4);
+    due("due(0)", x.due(0, 0), 30);
+    x.turn(3);
+    due("place(1)", x.place(1, 0), 17);
+    x.give(0, 3);
+    due("crumb(0)", x.crumb(0, 0), 45);
+    x.give(1, 3);
+    due("work(1, 1, 1)", x.work(1, 1, 1, 0), 40);
+    x.give(1, 2);
+    due("crust(1)", x.crust(1, 0), 8);
+    x.eat(9);
+    due("due(1)", x.due(1, 0), 18);
+    x.move(3, 2);
+    due("judge(0)", x.judge(0), 0);
+    x.move(3, 3);
+    due("off(0)", x.off(0), 0);
+    x.join(5);
+    due("crust(2) by 2", x.crust(2, 0) * 2 / x.crust(2, 1), 15);
+  }
+
   private static void fairAndOff() {
     sentence("It is FAIR, if each PIECE has its DUE");
     CrustCrumb x = cake("one 1;");
@@ -709,6 +758,15 @@ public final class TermsTest extends Asked {
     CrustCrumb x = cake("begin 1;gone 1;one 1;cherry 3 3;");
     due("cut(), in the MIDDLE", x.cut(), 1);
     due("cherries(0), in the MIDDLE", x.cherries(0), 0);
+    x = cake("begin 1;one 1;cherry 3 4;");
+    for (int again = 0; again < 3; again++) {
+      due("cut(), away from the MIDDLE", x.cut(), 0);
+      due("cherries(0), away from the MIDDLE", x.cherries(0), 1);
+      x.move(3, 4);
+      due("cut(), the MIDDLE came there", x.cut(), 1);
+      due("cherries(0), the MIDDLE came there", x.cherries(0), 0);
+      x.move(3, 3);
+    }
     x = cake("begin 0;gone 6;one 1;cherry 1 1;");
     due("cut(), at BEGIN", x.cut(), 1);
     x = cake("begin 0;gone 6;one 1;cherry 5 1;");
@@ -902,6 +960,7 @@ public final class TermsTest extends Asked {
     faultsOfWhole();
     takenTellsAll();
     places();
+    askedAtOnce();
     fairAndOff();
     cherriesCut();
     marksAndSeen();
