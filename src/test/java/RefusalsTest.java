@@ -1,6 +1,7 @@
 import java.util.ArrayList;
 import java.util.List;
 import java.util.function.Consumer;
+import java.util.function.ToIntFunction;
 import java.util.function.ToLongFunction;
 
 /**
@@ -472,6 +473,33 @@ public final class RefusalsTest extends Asked {
     x.read(0, 0, 0, 7);
     x.read(0, 2, 0, 2);
     due("torn() stays", x.torn(), 2);
+    for (int fault = 0; fault <= 3; fault++) {
+      tornBy(fault, "BAD", y -> y.read(4, 0, 0, 1), BAD);
+      tornBy(fault, "BAD", y -> y.read(0, 3, 0, 1), BAD);
+      tornBy(fault, "BAD", y -> y.read(0, 0, 0, 7), BAD);
+      tornBy(fault, "refused", y -> y.read(0, 0, 0, 1), -20);
+      tornBy(fault, "refused behind one that came", y -> y.read(0, 0, 1, 2), -21);
+      tornBy(fault, "ended, nothing read", y -> y.read(0, 0, 0, 0), 0);
+    }
+  }
+
+  /** A read() that ends with the FAULT, then another: torn() is of the first, if the other did not come to an end. */
+  private static void tornBy(int fault, String how, ToIntFunction<CrustCrumb> read, int answer) {
+    CrustCrumb y = new CrustCrumb();
+    y.sheet(0, 0, 3);
+    y.lay(0, 0, -1);
+    y.lay(0, 1, 5);
+    y.lay(0, 2, 5);
+    switch (fault) {
+      case 1 -> y.read(1, 0, 0, 1);
+      case 2 -> y.read(0, 0, 3, 1);
+      case 3 -> y.read(0, 1, 0, 1);
+      default -> y.read(0, 0, 0, 0);
+    }
+    due("torn()", y.torn(), fault);
+    due("read(), " + how, read.applyAsInt(y), answer);
+    due("torn() behind a read() that " + how, y.torn(), answer < 0 ? fault : 0);
+    due("MARKS", y.count(0), 0);
   }
 
   public static void main(String[] args) {

@@ -61,6 +61,12 @@ public final class TermsTest extends Asked {
     x = new CrustCrumb();
     due("sheet(4, 0, -1)", x.sheet(4, 0, -1), BAD);
     due("sheet(0, 3, -1)", x.sheet(0, 3, -1), BAD);
+    due("sheet(0, 0, -1)", x.sheet(0, 0, -1), -14);
+    for (int n : new int[] {-1, LOW}) {
+      for (int k : new int[] {-1, 4, LOW, HIGH}) due("sheet(" + k + ", 0, " + n + ")", x.sheet(k, 0, n), BAD);
+      for (int lane : new int[] {-1, 3, LOW, HIGH}) due("sheet(0, " + lane + ", " + n + ")", x.sheet(0, lane, n), BAD);
+    }
+    due("no SHEET came of it", x.count(4), NONE);
     due("lay(4, -1, 0)", x.lay(4, -1, 0), BAD);
     due("read(4, 0, -1, 1)", x.read(4, 0, -1, 1), BAD);
     due("read(0, 3, -1, 1)", x.read(0, 3, -1, 1), BAD);
@@ -396,6 +402,16 @@ public final class TermsTest extends Asked {
     taken("one 1;", 1);
     taken("   one   1   ;   ", 1);
     taken("cherry1 2;cherry 3 4 ;", 2);
+    taken("corner0 0;corner6 0;corner6 6;corner0 6;middle1 1;begin23;gone0;one9;", 8);
+    // what is as long as may be ends where another kind begins: one TOKEN ahead of it, one behind
+    refused("one1two", 2, 4);
+    refused("one1x;", 2, 4);
+    refused("one12 ;", 3, 3);
+    refused("one123;", 1, 3);
+    refused("one;1", 2, 3);
+    refused("1one;", 2, 0);
+    refused("123one;", 1, 0);
+    refused("middle3 3one1;", 2, 9);
     for (int b = 0; b < 256; b++) {
       if (b == 32) continue;
       refused((char) b + "begin 1;", b >= '0' && b <= '9' || b == ';' || b >= 'a' && b <= 'z' ? 2 : 1, 0);
